@@ -958,10 +958,11 @@ public final class TallySticks {
             advance();
             for (int i = 0; i < Program.MOST_CLAUSES; i++) {
                 if (lawful) {
-                    readLawClause();
+                    readLawHead();
                 } else {
-                    readOrder();
+                    readOrderHead();
                 }
+                readCondition();
                 if (faultAt != NONE || shape == AT_END) {
                     return faultAt;
                 }
@@ -974,7 +975,7 @@ public final class TallySticks {
             return faultAt;
         }
 
-        private void readLawClause() {
+        private void readLawHead() {
             if (takeWord("pays")) {
                 readOneSum(PAYS);
             } else if (takeWord("wears")) {
@@ -984,10 +985,9 @@ public final class TallySticks {
             } else {
                 fail();
             }
-            readCondition();
         }
 
-        private void readOrder() {
+        private void readOrderHead() {
             if (takeWord("give")) {
                 readTwoSums(GIVE, "to");
             } else if (takeWord("call")) {
@@ -1002,7 +1002,6 @@ public final class TallySticks {
             if (faultAt == NONE && takeWord("times")) {
                 program.setHead(Program.TIMES, readNumber(1, MOST_TIMES));
             }
-            readCondition();
         }
 
         private void readOneSum(int kind) {
@@ -1012,7 +1011,9 @@ public final class TallySticks {
         }
 
         private void readTwoSums(int kind, String between) {
-            readOneSum(kind);
+            program.openClause(kind);
+            readSum(0);
+            program.markFrom(Program.SECOND);
             if (faultAt == NONE && !takeWord(between)) {
                 fail();
             }
@@ -1199,9 +1200,10 @@ public final class TallySticks {
         }
 
         private void closeBracket(char bracket) {
-            if (faultAt == NONE && !takeSign(bracket)) {
+            if (!isSign(bracket)) {
                 fail();
             }
+            advance();
         }
 
         /** The first fault stays; what is read behind it no longer matters. */
@@ -1243,45 +1245,40 @@ public final class TallySticks {
             return true;
         }
 
+        /** The TOKEN behind becomes the one that is looked at. */
         private void advance() {
             while (behind < length && bytes[behind] == ' ') {
                 behind++;
             }
             place = behind;
+            int sign = place < length ? bytes[place] : 0;
             if (place >= length) {
                 shape = AT_END;
-            } else if (isLetter(bytes[place])) {
+            } else if (sign >= 'a' && sign <= 'z') {
                 shape = WORD;
-                while (behind < length && isLetter(bytes[behind])) {
+                while (behind < length && bytes[behind] >= 'a' && bytes[behind] <= 'z') {
                     behind++;
                 }
-            } else if (isDigit(bytes[place])) {
+            } else if (sign >= '0' && sign <= '9') {
                 shape = NUMBER;
                 value = 0;
-                while (behind < length && isDigit(bytes[behind])) {
+                while (behind < length && bytes[behind] >= '0' && bytes[behind] <= '9') {
                     /* Beyond the last NUMBER it only has to stay beyond. */
                     value = Math.min(LAST_NUMBER + 1, value * 10 + bytes[behind] - '0');
                     behind++;
                 }
             } else {
                 shape = SIGN;
-                value = bytes[place];
+                value = sign;
                 behind++;
             }
-        }
-
-        private static boolean isLetter(int sign) {
-            return sign >= 'a' && sign <= 'z';
-        }
-
-        private static boolean isDigit(int sign) {
-            return sign >= '0' && sign <= '9';
         }
     }
 
     /** Asks the law in force, and does deeds in any chest, on paper too; deeds answer below 0 if refused. */
     private static final class Rules {
-        private static final int BROKEN = Integer.MIN_VALUE;
+        /** No value that is not BROKEN is so far from 0. */
+        private static final int BROKEN = -2000000000;
         private static final long FARTHEST = 1000000000L;
         /** Eight brackets, each behind two pending values, leave the stack under twenty-four. */
         private static final int STACK_ROOM = 64;
@@ -1509,11 +1506,11 @@ public final class TallySticks {
                 case Program.LATEST:
                     return latest;
                 case Program.PURSE_OF:
-                    return asked.hasPerson(which) ? asked.purse[which] : NONE;
+                    return which < asked.people ? asked.purse[which] : NONE;
                 case Program.HOLDER_OF:
-                    return asked.hasStick(which) ? asked.holds[which] : NONE;
+                    return which < asked.sticks ? asked.holds[which] : NONE;
                 default:
-                    return asked.hasStick(which) ? asked.sum[which] : NONE;
+                    return which < asked.sticks ? asked.sum[which] : NONE;
             }
         }
     }
@@ -1615,9 +1612,11 @@ public final class TallySticks {
                 }
             }
             int best = FULL_GRAIN;
+            int fewest = FIBRES;
             for (int fibres = 0; fibres < FULL_GRAIN; fibres++) {
-                if (Integer.bitCount(fibres) < Integer.bitCount(best) && tellApart(fibres, pairs)) {
+                if (Integer.bitCount(fibres) < fewest && tellApart(fibres, pairs)) {
                     best = fibres;
+                    fewest = Integer.bitCount(fibres);
                 }
             }
             return best;

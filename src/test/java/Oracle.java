@@ -586,13 +586,18 @@ final class Oracle {
         return best;
     }
 
-    int calls(int i) {
+    /** CALLED IN; null if too many STICKS are such. */
+    List<Integer> callRow() {
         List<Integer> such = new ArrayList<>();
         for (int s = 0; s < st.sticks.size(); s++) {
             if (!st.sticks.get(s).paid && st.sticks.get(s).due <= st.terms[0]) such.add(s);
         }
-        if (such.size() > 7 || i < -1) return NONE;
-        List<Integer> row = longest(st, such);
+        return such.size() > 7 ? null : longest(st, such);
+    }
+
+    int calls(int i) {
+        List<Integer> row = callRow();
+        if (row == null || i < -1) return NONE;
         if (i == NONE) return row.size();
         return i < row.size() ? row.get(i) : NONE;
     }

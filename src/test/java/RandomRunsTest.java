@@ -1,9 +1,11 @@
+import java.util.List;
 import java.util.Random;
 
 /** Runs of random calls, the same in every run of the test, with the oracle's answers as due. */
 public final class RandomRunsTest {
-    private static final int RUNS = 1500;
+    private static final int RUNS = 600;
     private static final int CALLS = 512;
+    private static final int NONE = TallySticks.NONE;
     private static final String[] LAW_WORDS = {"owes", "holds", "sum", "kind", "late", "purse", "to", "day", "mood"};
     private static final String[] NOISE = {";", "if", "or", "and", "not", "(", ")", "[", "]", "<", "=", "+", "-", "*",
         "/", "%", "1000", "1001", "0", "pays", "bars", "give", "to", "by", "times", "21", "sum", "purse", "latest", "#",
@@ -33,9 +35,15 @@ public final class RandomRunsTest {
             due("person(" + purse + ")", x.person(purse), o.person(purse));
             used++;
         }
-        while (used < CALLS - 40) {
+        used += begin();
+        int sweepAt = 100;
+        while (used < CALLS - 120) {
             int wrongBefore = check.wrong();
             used += step();
+            if (used > sweepAt) {
+                used += sweep();
+                sweepAt += 200;
+            }
             if (check.wrong() != wrongBefore) {
                 System.out.println("  in run " + seed);
                 return;
@@ -48,6 +56,51 @@ public final class RandomRunsTest {
 
     private void due(String call, int got, int want) {
         check.due(call, got, want);
+    }
+
+    /** Sticks and foils that are near to one another, kept as an image, so that back() finds some. */
+    private int begin() {
+        int sticks = below(11);
+        int grains = random.nextBoolean() ? 64 : 4096;
+        int days = 1 + below(6);
+        for (int i = 0; i < sticks; i++) {
+            int a = below(o.st.purses.size());
+            int b = (a + 1 + below(o.st.purses.size() - 1)) % o.st.purses.size();
+            int sum = random.nextBoolean() ? 10 + 10 * below(4) : 1 + below(300);
+            int grain = below(grains);
+            int k = below(4);
+            int day = below(days);
+            due("stick", x.stick(a, b, sum, grain, k, day), o.stick(a, b, sum, grain, k, day));
+        }
+        int foils = below(9);
+        for (int i = 0; i < foils; i++) {
+            int near = o.st.sticks.isEmpty() ? 0 : o.st.sticks.get(below(o.st.sticks.size())).grain;
+            int grain = near ^ 1 << below(12) ^ 1 << below(6);
+            int sum = 1 + below(400);
+            due("foil", x.foil(grain, sum), o.foil(grain, sum));
+        }
+        due("image(0)", x.image(0), o.image(0));
+        return sticks + foils + 1;
+    }
+
+    /** All that can be asked on paper. */
+    private int sweep() {
+        for (int i = 0; i <= 10; i++) {
+            due("match(" + i + ")", x.match(i), o.match(i));
+        }
+        for (int i = 0; i <= 6; i++) {
+            due("settle(" + i + ")", x.settle(i), o.settle(i));
+            due("ring(" + i + ")", x.ring(i), o.ring(i));
+            due("chain(" + i + ")", x.chain(i % 6, i / 2), o.chain(i % 6, i / 2));
+        }
+        List<Integer> row = o.callRow();
+        due("calls(-1)", x.calls(NONE), row == null ? NONE : row.size());
+        for (int i = 0; i < 8; i++) {
+            due("calls(" + i + ")", x.calls(i), row == null || i >= row.size() ? NONE : row.get(i));
+        }
+        due("apart(1)", x.apart(1), o.apart(1));
+        due("odd()", x.odd(), o.odd());
+        return 42;
     }
 
     private int below(int n) {
@@ -91,10 +144,10 @@ public final class RandomRunsTest {
         int kind = below(100);
         if (kind < 8) return made();
         if (kind < 34) return deed();
-        if (kind < 52) return text();
-        if (kind < 56) return rowOfBytes();
-        if (kind < 64) return kept();
-        if (kind < 70) return small();
+        if (kind < 46) return text();
+        if (kind < 48) return rowOfBytes();
+        if (kind < 58) return kept();
+        if (kind < 66) return small();
         return asked();
     }
 
