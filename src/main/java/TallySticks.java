@@ -66,7 +66,9 @@ public final class TallySticks {
     private final Halves halves = new Halves();
     private final Debts debts = new Debts();
     private final CallingIn callingIn = new CallingIn();
-    private int draw;
+    /** CALLED IN is dear and asked stick by stick, so it is kept until a call is accepted. */
+    private boolean callRowKnown;
+    private int callRowLength;
     private int faultPlace = NONE;
     private int stoppedAt = NONE;
     private int chipCount;
@@ -369,12 +371,15 @@ public final class TallySticks {
         if (i < NONE) {
             return NONE;
         }
-        before.copyFrom(now);
-        int length = callingIn.longestRow(before, rules);
-        if (i == NONE || i >= length) {
-            return i == NONE ? length : NONE;
+        if (!callRowKnown) {
+            before.copyFrom(now);
+            callRowLength = callingIn.longestRow(before, rules);
+            callRowKnown = true;
         }
-        return callingIn.best[i];
+        if (i == NONE) {
+            return callRowLength;
+        }
+        return i < callRowLength ? callingIn.best[i] : NONE;
     }
 
     public int years(int seed, int n) {
@@ -388,11 +393,13 @@ public final class TallySticks {
             afterYears = new Chest();
         }
         afterYears.copyFrom(now);
-        draw = seed;
+        int draw = seed;
         int called = 0;
         for (int day = 0; day < n && afterYears.terms[DAY] < LAST_DAY; day++) {
-            int stick = drawOf(afterYears.sticks);
-            int person = drawOf(afterYears.people);
+            draw = nextDraw(draw);
+            int stick = draw % afterYears.sticks;
+            draw = nextDraw(draw);
+            int person = draw % afterYears.people;
             if (rules.tryCall(afterYears, stick) >= 0) {
                 called++;
             } else {
@@ -496,6 +503,7 @@ public final class TallySticks {
 
     private int accept(int told) {
         latestRefusal = 0;
+        callRowKnown = false;
         return told;
     }
 
@@ -565,9 +573,8 @@ public final class TallySticks {
         return true;
     }
 
-    private int drawOf(int choices) {
-        draw = (draw * DRAW_TIMES + DRAW_MORE) % DRAW_MODULUS;
-        return choices > 0 ? draw % choices : 0;
+    private static int nextDraw(int draw) {
+        return (draw * DRAW_TIMES + DRAW_MORE) % DRAW_MODULUS;
     }
 
     private int emptyTape() {
