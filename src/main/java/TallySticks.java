@@ -549,7 +549,6 @@ public final class TallySticks {
     private boolean runOrder(Program program, int clause) {
         int secondFrom = program.headOf(clause, Program.SECOND);
         int testFrom = program.headOf(clause, Program.TEST);
-        rules.chest = now;
         if (rules.compute(program, testFrom, program.headOf(clause, Program.STOP)) != 1) {
             return true;
         }
@@ -675,7 +674,6 @@ public final class TallySticks {
             grain[sticks] = ownGrain;
             kind[sticks] = ownKind;
             due[sticks] = ownDue;
-            /* A stick that an IMAGE took away may have left its mark here. */
             paid[sticks] = 0;
             return sticks++;
         }
@@ -1298,6 +1296,7 @@ public final class TallySticks {
         private int done;
         private int latest = NONE;
 
+        /** Laws that are asked while ORDERS run are asked of the same chest, so it stays the one. */
         private void startOrders(Chest asked) {
             chest = asked;
             done = 0;

@@ -139,6 +139,9 @@ public final class LanguagesTest {
         lawFault("payssum", 0);
         lawFault("paYs 1", 0);
         lawFault("pays sumday", 5);
+        lawFault("pays sumz", 5);
+        lawFault("pays z", 5);
+        lawFault("pays 1z", 6);
         lawFault("pays\t1", 4);
         lawFault("pays 1\n", 6);
         lawFault("  pays  1  if  day<1  ", NONE);
@@ -170,11 +173,17 @@ public final class LanguagesTest {
         lawFault("pays " + many("1", "+", 49) + ";bars if sum=1", 115);
         lawFault("pays " + many("1", "+", 48) + ";bars if sum=1", NONE);
         lawFault("pays " + many("1", "+", 50) + "+[1", 106);
+        lawFault("pays " + many("1", "+", 50) + "+", 105);
+        lawFault("pays " + many("1", "+", 50) + " if", 107);
         orderFault("call " + many("sum 1", "+", 50), NONE);
         orderFault("call " + many("sum 1", "+", 51), 305);
         orderFault("pass times 3;call " + many("1", "+", 50), NONE);
         lawFault("pays " + many("[", "", 8) + "1" + many("]", "", 8), NONE);
         lawFault("pays " + many("[", "", 9) + "1" + many("]", "", 9), 13);
+        String eight = many("[", "", 8) + "0" + many("]", "", 8);
+        orderFault("give " + eight + " to " + eight, NONE);
+        orderFault("shave " + eight + " by [" + eight + "]", 35);
+        orderFault("shave [" + eight + "] by 1", 14);
         lawFault("bars if " + many("(", "", 8) + "1=1" + many(")", "", 8), NONE);
         lawFault("bars if " + many("(", "", 9) + "1=1" + many(")", "", 9), 16);
         lawFault("bars if " + many("(", "", 5) + "[[[1]]]=1" + many(")", "", 5), NONE);

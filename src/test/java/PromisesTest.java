@@ -16,6 +16,7 @@ public final class PromisesTest {
         rowAndChips();
         law();
         orders();
+        ordersThatTellNothing();
         ordersGoBack();
         faultAndStopped();
         force();
@@ -293,6 +294,23 @@ public final class PromisesTest {
         due("14: latest starts anew", Check.orders(x, "pass if latest = 20"), 0);
         due("14: purse, holder, sum", Check.orders(x, "pass times 2 if purse 0 = 70 and holder 1 = 0 and sum 1 = 20"), 2);
         due("14: -1 without", Check.orders(x, "pass if purse 3 + holder 2 + sum 9 + 3 = 0"), 1);
+    }
+
+    /** A deed that tells 0 was done like any other. */
+    private static void ordersThatTellNothing() {
+        TallySticks x = people(0, 0, 0);
+        x.stick(1, 0, 50, 0, 0, 0);
+        Check.law(x, "pays 0");
+        x.force(0);
+        due("14: give from 0, call for 0", Check.orders(x, "give 0 to 2; call 0; pass if latest = 0"), 3);
+        due("14: given", x.at(0, 1), 2);
+        due("14: all three can be undone", x.undo() * 100 + x.undo() * 10 + x.undo(), 310);
+        due("19: give from 0", x.give(0, 2), 0);
+        due("20: call for 0", x.call(0), 0);
+        due("23: both are kept", x.count(5), 2);
+        x.undo();
+        due("33: called for 0", x.years(0, 1), 1);
+        due("32: called for 0", x.calls(NONE), 1);
     }
 
     private static void ordersGoBack() {
@@ -756,6 +774,19 @@ public final class PromisesTest {
     }
 
     private static void callsByLaw() {
+        TallySticks u = people(100, 100, 0);
+        u.stick(0, 1, 50, 0, 0, 0);
+        u.stick(1, 0, 50, 0, 0, 0);
+        due("32: both", u.calls(NONE), 2);
+        u.give(0, 2);
+        u.give(1, 1);
+        due("32: one was paid", u.calls(NONE), 1);
+        u.undo();
+        due("32: undone", u.calls(NONE), 2);
+        Check.orders(u, "shave 0 by 1; give 1 to 1; call 0");
+        due("32: orders", u.calls(NONE), 0);
+        u.undo();
+        due("32: undone", u.calls(NONE), 1);
         TallySticks x = people(100, 9999, 0);
         x.stick(0, 1, 50, 0, 0, 0);
         x.stick(0, 2, 60, 0, 1, 0);
