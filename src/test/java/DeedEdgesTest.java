@@ -33,6 +33,7 @@ public final class DeedEdgesTest {
         undoGiveThatPaid();
         undoOnlyDeeds();
         undoRefusedOnes();
+        undoRefusedOnesWhenFull();
         forgotten();
         notForgotten();
         undoIsNoDeed();
@@ -423,6 +424,24 @@ public final class DeedEdgesTest {
         is("23: the one that was done", x.undo(), 1);
         is("5: not PAID", x.at(0, 6), 0);
         is("23: no more", x.undo(), -3);
+    }
+
+    private static void undoRefusedOnesWhenFull() {
+        TallySticks x = three();
+        x.shave(0, 5);
+        Check.orders(x, "pass times 15");
+        is("37: 16", x.count(5), 16);
+        x.give(1, 1);
+        x.call(9);
+        x.shave(1, 60);
+        Check.orders(x, "give 0 to 2; give 1 to 1");
+        is("37: 16", x.count(5), 16);
+        for (int i = 0; i < 15; i++) {
+            is("23: a pass", x.undo(), 3);
+        }
+        is("23: the oldest stays as it was", x.undo(), 2);
+        is("5: SUM", x.at(0, 2), 50);
+        is("3: PURSE", x.of(0, 0), 100);
     }
 
     private static void forgotten() {

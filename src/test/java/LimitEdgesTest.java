@@ -41,6 +41,7 @@ public final class LimitEdgesTest {
         rowThirdByte();
         rowFirstByte();
         rowEnds();
+        rowEndsAheadOfWhatWasCut();
         rowRoom();
         chipsOfTheLatest();
         wildPeopleAndSticks();
@@ -495,6 +496,17 @@ public final class LimitEdgesTest {
         is("12: a CHIP", x.chips(), 1);
         is("11: the TAPE is empty then", x.count(6), 0);
         is("IV: what was cut off does not come", x.count(2), 3);
+    }
+
+    /** What end() cut off is no byte of the TAPE any more, though it could be a FOIL's. */
+    private static void rowEndsAheadOfWhatWasCut() {
+        TallySticks x = new TallySticks();
+        for (int n = 1; n <= 6; n++) {
+            x.feed(0x01010101, 0x01010101, 0x01010101, 0x01010101, 0x01010101);
+            x.end(n);
+            is("IV: FOILS of " + n + " bytes", x.row(), n / 3);
+            is("IV: CHIPS of " + n + " bytes", x.chips(), n % 3 == 0 ? 0 : 1);
+        }
     }
 
     private static void rowRoom() {

@@ -194,6 +194,20 @@ public final class OrderEdgesTest {
         is("the oldest", y.undo(), 2);
         is("no more", y.undo(), -3);
         is("SUM", y.at(0, 2), 50);
+        TallySticks z = three();
+        Check.orders(z, "shave 0 by 1 times 8; shave 1 by done-7 times 9");
+        is("16 of 17", z.count(5), 16);
+        is("full of shaves, and can't be", Check.orders(z, "pass times 20; give 0 to 2; call 9"), -3);
+        for (int i = 9; i >= 1; i--) {
+            int was = z.at(1, 2);
+            is("shave of 1", z.undo(), 2);
+            is("by so much", z.at(1, 2) - was, i);
+        }
+        for (int i = 1; i <= 7; i++) {
+            is("shave of 0", z.undo(), 2);
+            is("by 1", z.at(0, 2), 42 + i);
+        }
+        is("no more", z.undo(), -3);
     }
 
     private static void imagesStay() {

@@ -12,6 +12,7 @@ public final class PaperEdgesTest {
         matchNone();
         matchFull();
         matchFirstRow();
+        matchByMakingRoom();
         matchWhat();
         oddFoils();
         apartOfFew();
@@ -33,11 +34,14 @@ public final class PaperEdgesTest {
         callsDue();
         callsSeven();
         callsFirstRow();
+        callsTriedAnew();
+        callsBehindWhatTellsNothing();
         callsNumbers();
         yearsNumbers();
         yearsDays();
         yearsLastDay();
         yearsSeeds();
+        yearsOfCallsForNothing();
         yearsOnPaper();
         drawnNumbers();
         drawnOfTheLatest();
@@ -185,6 +189,27 @@ public final class PaperEdgesTest {
         is("III: STICK 1 has the one it can", x.match(2), 0);
         is("III: STICK 0 has the next", x.match(1), 1);
         is("III: STICK 2 the last", x.match(3), 3);
+    }
+
+    /** STICK i fits FOILS i and i + 1, the last one FOIL 0 alone: all others have to make room for it. */
+    private static void matchByMakingRoom() {
+        TallySticks x = people(1, 1);
+        x.terms(1, 1);
+        for (int i = 0; i < 9; i++) {
+            x.stick(0, 1, 1, 3 << i, 0, 0);
+        }
+        for (int f = 0; f < 10; f++) {
+            x.foil(1 << f, 1);
+        }
+        is("III: nine", x.match(0), 9);
+        is("III: the first row, STICK 8", x.match(9), 8);
+        is("26: the last FOIL fits STICK 8", x.odd(), 0);
+        x.stick(0, 1, 1, 1 << 11 | 1, 0, 0);
+        is("III: the most are ten", x.match(0), 10);
+        for (int s = 0; s < 9; s++) {
+            is("III: room was made by STICK " + s, x.match(1 + s), s + 1);
+        }
+        is("III: for STICK 9", x.match(10), 0);
     }
 
     private static void matchWhat() {
@@ -503,6 +528,42 @@ public final class PaperEdgesTest {
         is("37: on paper", y.count(3) + y.count(5), 0);
     }
 
+    /** What was tried and was not the longest is as it was for what is tried next. */
+    private static void callsTriedAnew() {
+        TallySticks x = people(10, 0, 0);
+        x.stick(0, 2, 10, 0, 0, 0);
+        x.stick(0, 1, 5, 0, 0, 0);
+        x.stick(0, 1, 5, 0, 0, 0);
+        is("III: not the first alone", x.calls(NONE), 2);
+        is("III: the two", x.calls(0) * 10 + x.calls(1), 12);
+        TallySticks y = people(10, 0, 0);
+        y.stick(0, 1, 10, 0, 0, 0);
+        y.stick(1, 2, 10, 0, 0, 0);
+        y.stick(0, 2, 5, 0, 0, 0);
+        y.stick(0, 2, 5, 0, 0, 0);
+        is("III: not what one has who was not paid", y.calls(NONE), 2);
+        is("III: the first row", y.calls(0) * 10 + y.calls(1), 1);
+        TallySticks z = people(10, 0, 0);
+        z.stick(0, 2, 10, 0, 0, 0);
+        z.stick(0, 1, 10, 0, 0, 0);
+        z.stick(1, 0, 10, 0, 0, 0);
+        is("III: the first one last", z.calls(NONE), 3);
+        is("III: its row", z.calls(0) * 100 + z.calls(1) * 10 + z.calls(2), 120);
+    }
+
+    /** A call that tells 0 changes what is asked next like any other. */
+    private static void callsBehindWhatTellsNothing() {
+        TallySticks x = people(10, 0, 0);
+        x.stick(1, 0, 1, 0, 0, 0);
+        x.stick(0, 1, 5, 0, 0, 0);
+        is("32: 1, then 0", x.calls(NONE), 2);
+        is("19: to who OWES it: 0 held it", x.give(0, 1), 0);
+        is("32: not PAID alone", x.calls(NONE), 1);
+        is("32: which", x.calls(0), 1);
+        is("23: a give is undone", x.undo(), 0);
+        is("32: as it was", x.calls(NONE), 2);
+    }
+
     private static void callsNumbers() {
         TallySticks x = people(10, 0);
         x.stick(0, 1, 1, 0, 0, 0);
@@ -604,6 +665,17 @@ public final class PaperEdgesTest {
         is("34: STICK 0 to 0", x.drawn(0, 2) * 100 + x.drawn(1, 2) * 10 + x.drawn(2, 2), 100);
         is("IV: s 1, then 13,448", x.years(413408, 1), 0);
         is("34: STICK 1 to 2, who HOLDS it", x.drawn(0, 1) * 100 + x.drawn(1, 1) * 10 + x.drawn(2, 1), 120);
+    }
+
+    private static void yearsOfCallsForNothing() {
+        TallySticks x = people(0, 0);
+        x.stick(0, 1, 5, 0, 0, 0);
+        is("33: an empty PURSE", x.years(0, 1), 0);
+        Check.law(x, "pays 0");
+        x.force(0);
+        is("33: CALLED for 0", x.years(0, 1), 1);
+        is("34: PAID", x.drawn(0, 2), 1);
+        is("34: who HOLDS it stays", x.drawn(0, 1), 1);
     }
 
     private static void yearsOnPaper() {

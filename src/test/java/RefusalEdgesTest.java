@@ -25,6 +25,7 @@ public final class RefusalEdgesTest {
         imageNumbers();
         imageKeptAnew();
         imageKeepsAll();
+        imagesHaveTheirOwn();
         imageKeepsNot();
         backForgetsUndo();
         imagesStay();
@@ -422,6 +423,33 @@ public final class RefusalEdgesTest {
         is("36: PAID", x.at(0, 6) * 100 + x.at(1, 1) * 10 + x.at(3, 6), 101);
         is("36: SUM", x.at(2, 2), 397);
         is("36: PURSES", x.of(0, 0) * 1000 + x.of(2, 0), 95305);
+    }
+
+    /** Where another STICK, FOIL, LAW of the same number was made since, it is the one of then. */
+    private static void imagesHaveTheirOwn() {
+        TallySticks x = new TallySticks();
+        x.image(1);
+        x.person(11);
+        x.person(12);
+        x.person(13);
+        x.stick(0, 1, 2, 3, 1, 5);
+        x.foil(6, 7);
+        Check.law(x, "pays 8; wears 9");
+        x.force(0);
+        x.image(0);
+        String was = Check.seen(x);
+        x.back(1);
+        x.person(21);
+        x.person(22);
+        x.person(23);
+        x.stick(2, 0, 4, 5, 2, 6);
+        x.foil(8, 9);
+        Check.law(x, "pays 1; wears 2; bars");
+        x.force(0);
+        x.give(0, 1);
+        x.give(0, 2);
+        x.back(0);
+        CHECK.same("36: all of it as it was then", Check.seen(x), was);
     }
 
     private static void imageKeepsNot() {

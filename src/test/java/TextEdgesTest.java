@@ -16,6 +16,7 @@ public final class TextEdgesTest {
         longestRows();
         wholeTape();
         faultAtTheEnd();
+        faultWhereOneIsLeftOut();
         clausesAtMost();
         numberLimit();
         timesLimit();
@@ -25,12 +26,14 @@ public final class TextEdgesTest {
         whatIsNoPart();
         bracketsAtMost();
         bracketsBesideOneAnother();
+        eachTextAnew();
         farthest();
         farthestBelow();
         wrapsAround();
         dividedByNothing();
         cutTowardsNothing();
         brokenTests();
+        notOfEach();
         laterPartsThatDoNotMatter();
         laterPartsThatMatter();
         lawsAtMost();
@@ -44,6 +47,7 @@ public final class TextEdgesTest {
         wornNearest();
         wornWithout();
         barredOrNot();
+        asksOfEach();
         asksLimits();
         wildLaws();
         CHECK.finish("TextEdgesTest");
@@ -93,6 +97,8 @@ public final class TextEdgesTest {
         lawFault("the byte behind z", "bars{", 4);
         lawFault("a great letter", "barS", 0);
         lawFault("a word that goes on with z", "barsz", 0);
+        lawFault("another first letter", "cars", 0);
+        lawFault("another last letter", "bart", 0);
         lawFault("a word that goes on with a", "barsa", 0);
         lawFault("a great Z", "barsZ", 4);
         lawFault("a great A", "barsA", 4);
@@ -174,6 +180,31 @@ public final class TextEdgesTest {
         orderFault("behind to", "give 1 to", 9);
         orderFault("ahead of by", "shave 1 ", 8);
         orderFault("behind by", "shave 1 by", 10);
+    }
+
+    /** What is left out has its FAULT where it should stand, though what follows could be read. */
+    private static void faultWhereOneIsLeftOut() {
+        lawFault("no < > =", "bars if 1 2", 10);
+        lawFault("no < > =, [", "bars if 1[2]", 9);
+        lawFault("no < > =, (", "bars if 1(2=2)", 9);
+        lawFault("no sum ahead of =", "bars if =1", 8);
+        lawFault("no sum behind =", "bars if 1=;bars", 10);
+        lawFault("no sum", "pays if 1=1", 5);
+        lawFault("no test", "bars if ;bars", 8);
+        lawFault("no ;", "bars bars", 5);
+        lawFault("no CLAUSE", "bars;;bars", 5);
+        lawFault("no if", "bars 1=1", 5);
+        lawFault("no and", "bars if 1=1 1=1", 12);
+        lawFault("no sign", "pays 1 2", 7);
+        lawFault("no sign, [", "pays 1[2]", 6);
+        lawFault("no ]", "pays [1;bars", 7);
+        lawFault("no )", "bars if (1=1;bars", 12);
+        orderFault("no to", "give 1 2", 7);
+        orderFault("no to, [", "give 1[2]", 6);
+        orderFault("no by", "shave 1 2", 8);
+        orderFault("no TIMES", "pass times if 1=1", 11);
+        orderFault("no P", "call purse + 1", 11);
+        orderFault("no S", "call holder ; pass", 12);
     }
 
     private static void clausesAtMost() {
@@ -298,6 +329,12 @@ public final class TextEdgesTest {
         lawFault("FAULT at the 9th behind not", "bars if " + many("(", "", 8) + "not (1=1)" + many(")", "", 8), 20);
         orderFault("8 in ORDERS", "call " + eight + "1" + many("]", "", 8), NONE);
         orderFault("FAULT at the 9th", "call " + eight + " [1" + many("]", "", 9), 14);
+        String both = eight + "1" + many("]", "", 8);
+        orderFault("8 in each SUM", "give " + both + " to " + both, NONE);
+        orderFault("FAULT at the 9th of the first SUM", "give [" + both + "] to " + both, 13);
+        orderFault("FAULT at the 9th of the second SUM", "give " + both + " to [" + both + "]", 34);
+        value("the most that can wait for what is in 8 brackets", "0+1*" + many("[0+1*", "", 8) + "6" + many("]", "", 8), 6);
+        test("the same, right of =", "6=0+1*" + many("[0+1*", "", 7) + "6" + many("]", "", 7), 1);
         value("8 are told", eight + "3" + many("]", "", 8) + "+1", 4);
     }
 
@@ -308,6 +345,29 @@ public final class TextEdgesTest {
         lawFault("behind some closed ones", "pays " + eight + "+[" + eight + "]", 31);
         String seven = many("[", "", 7) + "1" + many("]", "", 7);
         test("of both kinds", many("(", "", 7) + "1=1" + many(")", "", 7) + " and " + seven + "=1", 1);
+    }
+
+    /** What one TEXT has used up is there again for the next. */
+    private static void eachTextAnew() {
+        TallySticks x = new TallySticks();
+        x.image(0);
+        String fifty = "pays " + many("1", "+", 50);
+        String deep = "pays " + many("[", "", 8) + "1";
+        for (int i = 0; i < 12; i++) {
+            is("50 PARTS of the TEXT alone", Check.law(x, fifty), 0);
+            x.back(0);
+            is("8 brackets left open", Check.law(x, deep), -6);
+            is("FAULT at its end", x.fault(), 14);
+            is("8 brackets of the TEXT alone", Check.law(x, deep + many("]", "", 8)), 0);
+            x.back(0);
+        }
+        is("12 CLAUSES of the TEXT alone", Check.law(x, many("bars", ";", 12)), 0);
+        is("12 CLAUSES of the TEXT alone", Check.law(x, many("bars", ";", 11) + ";pays 8"), 1);
+        x.person(1);
+        x.person(1);
+        x.stick(0, 1, 5, 0, 0, 0);
+        x.force(1);
+        is("the last of them is asked", x.at(0, 7), 8);
     }
 
     private static void farthest() {
@@ -379,6 +439,20 @@ public final class TextEdgesTest {
         test("asked first, and", "1/0=1 and 1=2", NONE);
     }
 
+    private static void notOfEach() {
+        test("not of = that is so", "not 1=1", 0);
+        test("not of = that is not so", "not 1=2", 1);
+        test("not of < that is so", "not 1<2", 0);
+        test("not of < that is not so", "not 1<1", 1);
+        test("not of > that is so", "not 2>1", 0);
+        test("not of > that is not so", "not 1>1", 1);
+        test("not of a not that is so", "not (not 1=2)", 0);
+        test("not of a not that is not so", "not (not 1=1)", 1);
+        test("not behind and", "1=1 and not 1=2", 1);
+        test("and behind not", "not 1=1 and 1=1", 0);
+        test("or behind not", "not 1=1 or 1=1", 1);
+    }
+
     private static void laterPartsThatDoNotMatter() {
         test("or behind what is so", "1=1 or 1/0=1", 1);
         test("and behind what is not so", "1=2 and 1/0=1", 0);
@@ -387,6 +461,12 @@ public final class TextEdgesTest {
         test("and within or", "1=1 or 1=1 and 1/0=1", 1);
         test("or behind an and", "1=2 and 1/0=1 or 1=1", 1);
         test("in (", "(1=1 or 1/0=1) and 1=1", 1);
+        test("and behind < that is not so", "1<1 and 1/0=1", 0);
+        test("and behind > that is not so", "1>1 and 1/0=1", 0);
+        test("or behind < that is so", "1<2 or 1/0=1", 1);
+        test("or behind > that is so", "2>1 or 1/0=1", 1);
+        test("and behind not that is not so", "not 1=1 and 1/0=1", 0);
+        test("or behind not that is so", "not 1=2 or 1/0=1", 1);
         test("not", "not (1=2 and 1/0=1)", 1);
     }
 
@@ -398,6 +478,8 @@ public final class TextEdgesTest {
         test("or behind an and that is not so", "1=2 and 1=1 or 1/0=1", NONE);
         test("and within or", "1=2 or 1=1 and 1/0=1", NONE);
         test("not", "not (1=1 and 1/0=1)", NONE);
+        test("and behind not that is so", "not 1=2 and 1/0=1", NONE);
+        test("or behind not that is not so", "not 1=1 or 1/0=1", NONE);
     }
 
     private static void lawsAtMost() {
@@ -594,6 +676,24 @@ public final class TextEdgesTest {
             is("II: BARRED by LAW " + i, x.asks(0, 0), want[i]);
         }
         is("from who HOLDS it, too", x.asks(0, 1), 1);
+    }
+
+    /** The one that is asked is not the one that was asked last. */
+    private static void asksOfEach() {
+        TallySticks x = Check.pair(500, 600, 77, 78, 79);
+        Check.law(x, "bars if sum=78; pays sum+1; wears sum-70");
+        x.force(0);
+        is("18: STICK 0", x.asks(0, 0), 0);
+        is("18: STICK 1", x.asks(1, 0), 1);
+        is("18: STICK 2", x.asks(2, 0), 0);
+        is("18: STICK 1", x.asks(1, 0), 1);
+        is("5: PAYS of 2", x.at(2, 7), 80);
+        is("18: STICK 1", x.asks(1, 0), 1);
+        is("5: PAYS of 0", x.at(0, 7), 78);
+        is("5: WORN of 2", x.at(2, 8), 9);
+        is("19: STICK 1", x.give(1, 0), -3);
+        is("5: WORN of 0", x.at(0, 8), 7);
+        is("19: STICK 2", x.give(2, 0), 1);
     }
 
     private static void asksLimits() {
